@@ -194,10 +194,16 @@ public final class PromisesTest {
         x = new DockedBikes();
         x.rider();
         for (int i = 1; i < 20; i++) {
-            x.pass(0);
+            due("pass(0)", x.pass(0), i * 1000);
         }
         due("20000 itself", x.pass(0), 20000);
         due("a step more", x.pass(0), LIMIT);
+        x.rider();
+        pauses(1, 1);
+        for (int i = 0; i < 19; i++) {
+            x.pass(1);
+        }
+        due("20001", x.pass(1), LIMIT);
     }
 
     private static void rent() {
@@ -331,6 +337,8 @@ public final class PromisesTest {
         x.rent(0, 0);
         due("told in another ride only", x.full(0, 1), 45);
         due("riderOf(0, 4)", x.riderOf(0, 4), 45);
+        x.bicycle(0);
+        due("the station 0 too", x.full(0, 0), 60);
     }
 
     private static void report() {
@@ -491,6 +499,12 @@ public final class PromisesTest {
         due("faulty until then", x.bicycleOf(1, 3), 1);
         due("all three", x.pause(1), 3);
         due("not faulty", x.bicycleOf(1, 3), 0);
+        x.take(0, 0);
+        x.take(0, 1);
+        x.mend(0, 0);
+        x.pause(10);
+        x.mend(0, 1);
+        due("in several minutes", x.pause(70), 2);
     }
 
     private static void waitingBicycles() {
@@ -681,6 +695,10 @@ public final class PromisesTest {
         x.pass(1);
         due("a pass", x.riderOf(1, 1), 1000);
         due("coins for passes", x.riderOf(1, 7), 100);
+        x.set(2, 30);
+        x.pass(0);
+        x.pass(0);
+        due("coins for several passes", x.riderOf(0, 7), 60);
         x.rent(1, 0);
         pauses(1, 41);
         due("the pass goes by", x.riderOf(1, 1), 959);
@@ -697,7 +715,7 @@ public final class PromisesTest {
         due("no bicycle any more", x.riderOf(1, 2), MISSING);
         pauses(5, 200);
         due("a pass that is over", x.riderOf(1, 1), 0);
-        due("another rider's", x.riderOf(0, 0), 0);
+        due("another rider's", x.riderOf(0, 0), 60);
     }
 
     private static void vanOf() {
@@ -791,6 +809,12 @@ public final class PromisesTest {
         bicyclesAt(0, 2);
         bicyclesAt(1, 1);
         due("what helps one only as much as it harms the other", x.move(2), MISSING);
+        x = new DockedBikes();
+        x.station(0, 1);
+        x.station(9, 2);
+        bicyclesAt(0, 1);
+        due("the only bicycle there", x.move(0), 0);
+        due("its help", x.move(2), 2);
     }
 
     private static void moveTies() {
@@ -798,6 +822,16 @@ public final class PromisesTest {
         road(4, 0, 30, 50);
         bicyclesAt(0, 4);
         due("the least way", x.move(1), 1);
+        x = new DockedBikes();
+        road(4, 0, 50, 30);
+        bicyclesAt(0, 4);
+        due("the least way, also if it comes later", x.move(1), 2);
+        x = new DockedBikes();
+        x.station(0, 4);
+        x.station(50, 4);
+        x.station(1, 1);
+        bicyclesAt(0, 4);
+        due("less help, although near", x.move(1), 1);
         x = new DockedBikes();
         road(4, 20, 50, 80, 0);
         bicyclesAt(1, 4);
@@ -879,6 +913,24 @@ public final class PromisesTest {
         due("again", x.restore(), 9);
         due("undone", x.undo(), 3);
         due("the time before", x.count(4), 10);
+        restoreWorkshop();
+    }
+
+    private static void restoreWorkshop() {
+        x = new DockedBikes();
+        road(2, 0);
+        bicyclesAt(0, 1);
+        x.van(0, 1);
+        x.take(0, 0);
+        x.mend(0, 0);
+        x.keep();
+        x.pause(60);
+        x.take(0, 0);
+        x.set(1, 500);
+        x.mend(0, 0);
+        x.restore();
+        due("not before its minute of then", x.pause(59), 0);
+        due("the minute of then", x.pause(1), 1);
     }
 
     private static void undo() {
@@ -1071,6 +1123,9 @@ public final class PromisesTest {
         due("only numbers up to 999 have the form", faultOf("wait 999;", 1), 2);
         due("000 has it", faultOf("wait 000;", 1), 2);
         due("one that is not possible comes before", faultOf("wait 0;wait", 1), 2);
+        String eight = "wait 1;wait 1;wait 1;wait 1;wait 1;wait 1;wait 1;wait 1;";
+        due("a word that the end of the text cuts", faultOf(eight + "faul", 0), 56);
+        due("its reason", x.fault(1), 1);
     }
 
     private static void faultCalls() {
@@ -1168,18 +1223,16 @@ public final class PromisesTest {
 
     /** A call that is an error, and after which all is as before. */
     private static void error(String call, IntSupplier wrong) {
+        x = new DockedBikes();
+        fullRoad();
+        Checks.write(x, "wait 1;go 0 9;");
         List<Integer> before = Checks.lookAtAll(x);
         Checks.holds(call + " is an error", wrong.getAsInt() < 0);
         Checks.holds(call + " changes nothing", Checks.lookAtAll(x).equals(before));
-        DockedBikes next = new DockedBikes();
-        x = next;
-        fullRoad();
-        Checks.write(x, "wait 1;go 0 9;");
     }
 
     private static void errorsChangeNothing() {
         start("errors change nothing");
-        fullRoad();
         error("station", () -> x.station(0, 9));
         error("bicycle", () -> x.bicycle(3));
         error("van", () -> x.van(0, 1));
