@@ -180,47 +180,13 @@ public final class ModelTest {
     }
 
     private void compare(String name, int a, int b) {
-        int got = ask(name, a, b);
+        int got = Calls.ask(bikes, name, a, b);
         int want = model.call(name, a, b);
         calls++;
         log.append(name).append('(').append(a).append(", ").append(b).append(") = ").append(got).append('\n');
         if (got != want) {
             good = false;
             log.append("due is ").append(want);
-        }
-    }
-
-    private int ask(String name, int a, int b) {
-        switch (name) {
-            case "station": return bikes.station(a, b);
-            case "bicycle": return bikes.bicycle(a);
-            case "rider": return bikes.rider();
-            case "van": return bikes.van(a, b);
-            case "pass": return bikes.pass(a);
-            case "rent": return bikes.rent(a, b);
-            case "back": return bikes.back(a, b);
-            case "full": return bikes.full(a, b);
-            case "report": return bikes.report(a);
-            case "take": return bikes.take(a, b);
-            case "put": return bikes.put(a, b);
-            case "go": return bikes.go(a, b);
-            case "mend": return bikes.mend(a, b);
-            case "pause": return bikes.pause(a);
-            case "set": return bikes.set(a, b);
-            case "stationOf": return bikes.stationOf(a, b);
-            case "bicycleOf": return bikes.bicycleOf(a, b);
-            case "riderOf": return bikes.riderOf(a, b);
-            case "vanOf": return bikes.vanOf(a, b);
-            case "count": return bikes.count(a);
-            case "move": return bikes.move(a);
-            case "evening": return bikes.evening();
-            case "keep": return bikes.keep();
-            case "restore": return bikes.restore();
-            case "undo": return bikes.undo();
-            case "type": return bikes.type(a);
-            case "clearText": return bikes.clearText();
-            case "fault": return bikes.fault(a);
-            default: return bikes.play();
         }
     }
 }
