@@ -506,6 +506,15 @@ public final class BoundaryAnswersTest {
             move 1 = 2
             move 2 = 4
             """);
+        Rows.told("the move that helps most: although a later one has a way that is less", """
+            station 0 2
+            station 99 2
+            station 0 1
+            2x bicycle 0
+            move 0 = 0
+            move 1 = 1
+            move 2 = 4
+            """);
         Rows.told("of several the one with the least way: less by 1, to a higher number", """
             station 50 4
             station 60 4

@@ -116,6 +116,17 @@ public final class BoundaryBeginningTest {
             stationOf 1 1 = 8
             count 10 = 9
             """);
+        Rows.told("place and docks: far out of range", """
+            station -2147483648 1 = -1
+            station 2147483647 1 = -1
+            station 256 1 = -1
+            station -65536 1 = -1
+            station 0 -2147483648 = -1
+            station 0 2147483647 = -1
+            station 0 257 = -1
+            station 0 -65535 = -1
+            station 2147483647 -2147483648 = -1
+            """);
         Rows.told("There are at most 6 stations, numbered from 0", """
             station 0 1 = 0
             station 0 1 = 1
@@ -259,6 +270,9 @@ public final class BoundaryBeginningTest {
             van 0 0 = -1
             van 0 7 = -1
             van 0 -1 = -1
+            van 0 -2147483648 = -1
+            van 0 2147483647 = -1
+            van 0 257 = -1
             van 0 1 = 0
             van 0 0 = -1
             van 0 7 = -1

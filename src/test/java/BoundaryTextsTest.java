@@ -191,7 +191,8 @@ public final class BoundaryTextsTest {
                 wrongForm(sentence, c[3], c[0] + " 0 ;", 0);
             }
         }
-        for (String number : new String[] {"/", ":", "1/", "1:", "/1", ":1", "-1", "+1", "1.", "a", "1a", "1 1", "1000", "9999"}) {
+        String[] noNumbers = {"/", ":", "1/", "1:", "/1", ":1", "-1", "+1", "1.", "a", "1a", "1 1", "1000", "9999"};
+        for (String number : noNumbers) {
             wrongForm("no digits: the signs beside 0 and 9, and others", "", join("wait", number, ""), 0);
         }
         Rows.told("each digit from 0 to 9, in each of three places", """

@@ -519,6 +519,7 @@ public final class BoundaryVansTest {
             pause -1 = -1
             pause -2147483648 = -1
             pause 2147483647 = -1
+            pause 257 = -1
             count 4 = 0
             pause 1 = 0
             pause 200 = 0
@@ -635,6 +636,17 @@ public final class BoundaryVansTest {
             set 2 1000 = -1
             set 2 -1 = -1
             count 22 = 999
+            """);
+        Rows.told("a value in its range: far out of it", """
+            set 0 -2147483648 = -1
+            set 0 2147483647 = -1
+            set 0 256 = -1
+            set 1 -2147483648 = -1
+            set 1 2147483647 = -1
+            set 1 65537 = -1
+            set 2 -2147483648 = -1
+            set 2 2147483647 = -1
+            set 2 65536 = -1
             """);
         Rows.told("what: 0 to 2", """
             set -1 5 = -1

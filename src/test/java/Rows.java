@@ -11,8 +11,8 @@ final class Rows {
     // What a look behind a refused call needs: lookAtAll on a road with all that there may be, and full for all riders.
     private static final int CALLS_OF_A_LOOK = 280;
     private static final int LOOKS = 9;
-    private static final List<String> QUESTIONS = List.of("stationOf", "bicycleOf", "riderOf", "vanOf", "count", "move", "evening",
-        "fault");
+    private static final List<String> QUESTIONS =
+        List.of("stationOf", "bicycleOf", "riderOf", "vanOf", "count", "move", "evening", "fault");
 
     private record Call(String row, String name, int a, int b, Integer due) {
         int make(DockedBikes x) {
